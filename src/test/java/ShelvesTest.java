@@ -161,6 +161,21 @@ public final class ShelvesTest {
         Check.same("4: six of its kin, but full", 101, x.bestSpot(7));
     }
 
+    private static void testTwentyBoxes() {
+        Rackrail x = new Rackrail();
+        fill(x, 20);
+        for (int box = 0; box < 20; box++) {
+            int spot = 100 * (box / 6) + 10 * (box % 6 / 3) + box % 3;
+            Check.same("4: bestSpot of 20, no. " + box, spot, x.bestSpot(box));
+            Check.same("5: lay of 20, no. " + box, spot, x.lay(box));
+        }
+        Check.same("7: the last box", 19, x.boxAt(301));
+        Check.same("7: the next spot", NONE, x.boxAt(302));
+        Check.same("8: the last shelf", 2, x.weight(3));
+        x.setClimate(3, 1);
+        Check.same("9: the last two", 2, x.wrong());
+    }
+
     private static void testBestSpotOnAHeavyShelf() {
         Rackrail x = new Rackrail();
         x.setClimate(0, 1);
@@ -328,6 +343,7 @@ public final class ShelvesTest {
         testBestSpotByKin();
         testBestSpotByKinOfTheFirstBox();
         testBestSpotPassesAFullShelf();
+        testTwentyBoxes();
         testBestSpotOnAHeavyShelf();
         testBestSpotNoneAtAll();
         testBestSpotAndLayThrow();
