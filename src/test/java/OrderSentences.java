@@ -42,7 +42,8 @@ final class OrderSentences {
         Check.sentence(promise, "`person`: 0 to 3", OrderSentences::testPeopleOfGiveBack);
         Check.sentence(promise, "`box`: the number of a box", OrderSentences::testGiveBackEachBox);
         Check.sentence(promise, "`spot`: a spot", OrderSentences::testGiveBackToEachSpot);
-        Check.sentence(promise, "Returns true if the climate is that of the box.", OrderSentences::testClimateOfGiveBack);
+        Check.sentence(promise, "Returns true if the climate is that of the box.",
+                OrderSentences::testClimateOfGiveBack);
         Check.sentence(promise, "Throws `IndexOutOfBoundsException` if there is no such person, box or spot",
                 OrderSentences::testGiveBackOutOfRange);
         Check.sentence(promise, "Throws `IllegalStateException` if the person is not inside, the box is not out, the"

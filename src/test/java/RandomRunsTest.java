@@ -6,7 +6,8 @@ import java.util.Random;
  */
 public final class RandomRunsTest {
     private static final int RUNS = 3000;
-    private static final int LONGEST_RUN = 400;
+    /** With the 78 calls at the end of a run these are the 512 that the document promises. */
+    private static final int LONGEST_RUN = 434;
     private static final int[] ODD = {
         -1, -2, Integer.MIN_VALUE, Integer.MAX_VALUE, 3, 4, 6, 7, 10, 20, 21, 30, 61, 101, 600, 10001
     };

@@ -117,16 +117,16 @@ final class TermSentences {
 
     /** Box 0 lies in 0, box 1 is out, nobody is inside but where it is said. */
     private static void testSeveralExceptionsOfGiveBack() {
-        Check.refused("person, a box that lies", Check.INDEX, () -> someOut(), x -> x.giveBack(4, 0, 1));
-        Check.refused("person, not reached", Check.INDEX, () -> someOut(), x -> x.giveBack(-1, 1, 10));
-        Check.refused("person, taken", Check.INDEX, () -> someOut(), x -> x.giveBack(4, 1, 0));
-        Check.refused("box, nobody inside", Check.INDEX, () -> someOut(), x -> x.giveBack(0, 2, 1));
+        Check.refused("person, a box that lies", Check.INDEX, TermSentences::someOut, x -> x.giveBack(4, 0, 1));
+        Check.refused("person, not reached", Check.INDEX, TermSentences::someOut, x -> x.giveBack(-1, 1, 10));
+        Check.refused("person, taken", Check.INDEX, TermSentences::someOut, x -> x.giveBack(4, 1, 0));
+        Check.refused("box, nobody inside", Check.INDEX, TermSentences::someOut, x -> x.giveBack(0, 2, 1));
         Check.refused("box, not reached", Check.INDEX, () -> Made.inside(someOut(), 0), x -> x.giveBack(0, -1, 10));
         Check.refused("box, taken", Check.INDEX, () -> Made.inside(someOut(), 0), x -> x.giveBack(0, 2, 0));
-        Check.refused("spot, nobody inside", Check.INDEX, () -> someOut(), x -> x.giveBack(0, 1, 3));
+        Check.refused("spot, nobody inside", Check.INDEX, TermSentences::someOut, x -> x.giveBack(0, 1, 3));
         Check.refused("spot, a box that lies", Check.INDEX, () -> Made.inside(someOut(), 0), x -> x.giveBack(0, 0, 3));
         Check.refused("all three, on the way", Check.INDEX, () -> Made.onTheWay(0, 2, 1), x -> x.giveBack(4, 0, 600));
-        Check.refused("all states", Check.STATE, () -> someOut(), x -> x.giveBack(0, 0, 100));
+        Check.refused("all states", Check.STATE, TermSentences::someOut, x -> x.giveBack(0, 0, 100));
     }
 
     private static Rackrail someOut() {
@@ -339,7 +339,8 @@ final class TermSentences {
             Check.same("and is ended again", true, x.look());
         }
         Check.refused("on the way to it", Check.STATE, () -> Made.doubting(Made.onTheWay(0, 2, 1), 2), Rackrail::look);
-        Check.refused("on the way from it", Check.STATE, () -> Made.doubting(Made.onTheWay(0, 2, 0), 0), Rackrail::look);
+        Check.refused("on the way from it", Check.STATE, () -> Made.doubting(Made.onTheWay(0, 2, 0), 0),
+                Rackrail::look);
     }
 
     private static void testTwentyBoxes() {
@@ -535,11 +536,12 @@ final class TermSentences {
 
     private static void testGiveBack() {
         Check.same("inside, out and reached", true, Made.inside(someOut(), 0).giveBack(0, 1, 1));
-        Check.refused("nobody inside", Check.STATE, () -> someOut(), x -> x.giveBack(0, 1, 1));
+        Check.refused("nobody inside", Check.STATE, TermSentences::someOut, x -> x.giveBack(0, 1, 1));
         Check.refused("another inside", Check.STATE, () -> Made.inside(someOut(), 1, 2, 3), x -> x.giveBack(0, 1, 1));
         Check.refused("not out", Check.STATE, () -> Made.inside(someOut(), 0), x -> x.giveBack(0, 0, 1));
         Check.refused("not out, where it lies", Check.STATE, () -> Made.inside(someOut(), 0), x -> x.giveBack(0, 0, 0));
-        Check.refused("the shelf's other side", Check.STATE, () -> Made.inside(someOut(), 0), x -> x.giveBack(0, 1, 11));
+        Check.refused("the shelf's other side", Check.STATE, () -> Made.inside(someOut(), 0),
+                x -> x.giveBack(0, 1, 11));
     }
 
     private static void testNone() {
